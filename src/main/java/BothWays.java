@@ -79,22 +79,22 @@ public final class BothWays {
         if (what < 0 || what > 2) {
             return OUTSIDE;
         }
-        Reader asked = readers[reader];
-        int to = asked.target(state, sign);
-        if (to == NONE || what == 0) {
-            return to;
+        int move = readers[reader].moveOf(state, sign);
+        if (move == NONE) {
+            return NONE;
         }
-        if (what == 1) {
-            return asked.goesRight(state, sign) ? 1 : 0;
+        switch (what) {
+            case 0: return Reader.target(move);
+            case 1: return Reader.goesRight(move) ? 1 : 0;
+            default: return Reader.saying(move);
         }
-        return asked.saying(state, sign);
     }
 
     public int drop(int reader, int state, int sign) {
-        if (!isReader(reader) || readers[reader].target(state, sign) == NONE) {
+        if (!isReader(reader) || readers[reader].moveOf(state, sign) == NONE) {
             return UNKNOWN;
         }
-        readers[reader].remove(state, sign);
+        readers[reader].put(state, sign, NONE);
         return readers[reader].size;
     }
 
@@ -206,7 +206,8 @@ public final class BothWays {
         if (n < 0 || n > COUNTED_MOST) {
             return OUTSIDE;
         }
-        return beginningsOf(reader).finds.spent ? SPENT : leastOf(reader).takenOfLength(n);
+        Least least = leastOf(reader);
+        return least == null ? SPENT : least.takenOfLength(n);
     }
 
     public int of(int reader, int n, int i, int k) {
@@ -216,7 +217,8 @@ public final class BothWays {
         if (n < 0 || n > TOLD_MOST || i < 0 || k < 0) {
             return OUTSIDE;
         }
-        return beginningsOf(reader).finds.spent ? SPENT : leastOf(reader).letterOfTaken(n, i, k);
+        Least least = leastOf(reader);
+        return least == null ? SPENT : least.letterOfTaken(n, i, k);
     }
 
     public int rank(int reader) {
@@ -226,14 +228,16 @@ public final class BothWays {
         if (length > TOLD_MOST) {
             return NOT;
         }
-        return beginningsOf(reader).finds.spent ? SPENT : leastOf(reader).placeOfRow(letters, length);
+        Least least = leastOf(reader);
+        return least == null ? SPENT : least.placeOfRow(letters, length);
     }
 
     public int fewest(int reader) {
         if (!isReader(reader)) {
             return UNKNOWN;
         }
-        return beginningsOf(reader).finds.spent ? SPENT : leastOf(reader).size;
+        Least least = leastOf(reader);
+        return least == null ? SPENT : least.size;
     }
 
     public int alike(int reader, int i, int j) {
@@ -243,10 +247,10 @@ public final class BothWays {
         if (i < 0 || i > length || j < 0 || j > length) {
             return OUTSIDE;
         }
-        if (beginningsOf(reader).finds.spent) {
+        Least least = leastOf(reader);
+        if (least == null) {
             return SPENT;
         }
-        Least least = leastOf(reader);
         return least.stateBehind(letters, i) == least.stateBehind(letters, j) ? 1 : 0;
     }
 
@@ -344,33 +348,32 @@ public final class BothWays {
     }
 
     private Kinds kindsOf(int reader) {
-        Kinds all = tables[reader];
-        if (all == null) {
-            all = new Kinds(readers[reader]);
-            tables[reader] = all;
+        if (tables[reader] == null) {
+            tables[reader] = new Kinds(readers[reader]);
         }
-        all.renew();
-        return all;
+        tables[reader].renew();
+        return tables[reader];
     }
 
     private Beginnings beginningsOf(int reader) {
-        Beginnings all = beginnings[reader];
-        if (all == null) {
-            all = new Beginnings(readers[reader]);
-            beginnings[reader] = all;
+        if (beginnings[reader] == null) {
+            beginnings[reader] = new Beginnings(readers[reader]);
         }
-        all.renew();
-        return all;
+        beginnings[reader].renew();
+        return beginnings[reader];
     }
 
+    /** null: SPENT. */
     private Least leastOf(int reader) {
-        Least least = leasts[reader];
-        if (least == null) {
-            least = new Least(beginningsOf(reader));
-            leasts[reader] = least;
+        Beginnings all = beginningsOf(reader);
+        if (all.finds.spent) {
+            return null;
         }
-        least.renew();
-        return least;
+        if (leasts[reader] == null) {
+            leasts[reader] = new Least(all);
+        }
+        leasts[reader].renew();
+        return leasts[reader];
     }
 
     /** One reader: its states, which of them take, and its moves. */
@@ -380,19 +383,18 @@ public final class BothWays {
         private int size = 0;
         // Grows with every change, so that what was searched out before can tell that it is old.
         private int version = 0;
-        private final int[] targets = new int[STATES * SIGNS];
-        private final boolean[] rights = new boolean[STATES * SIGNS];
-        private final int[] sayings = new int[STATES * SIGNS];
+        // By state and sign: the move in one number, or NONE.
+        private final int[] packed = new int[STATES * SIGNS];
 
         Reader() {
-            Arrays.fill(targets, NONE);
+            Arrays.fill(packed, NONE);
         }
 
         void become(int newStates, int newTakes) {
             states = newStates;
             takes = newTakes;
             size = 0;
-            Arrays.fill(targets, NONE);
+            Arrays.fill(packed, NONE);
             version++;
         }
 
@@ -404,54 +406,42 @@ public final class BothWays {
             return hasState(state) && (takes >> state & 1) == 1;
         }
 
-        /** Where the move of a state by a sign goes to; NONE: there is no move. */
-        int target(int state, int sign) {
-            int cell = cellOf(state, sign);
-            return cell == NONE ? NONE : targets[cell];
+        static int pack(int to, boolean right, int says) {
+            return to << 3 | (right ? 4 : 0) | says + 1;
         }
 
-        boolean goesRight(int state, int sign) {
-            int cell = cellOf(state, sign);
-            return cell != NONE && rights[cell];
+        static int target(int move) {
+            return move >> 3;
         }
 
-        int saying(int state, int sign) {
-            int cell = cellOf(state, sign);
-            return cell == NONE ? NONE : sayings[cell];
+        static boolean goesRight(int move) {
+            return (move & 4) == 4;
         }
 
-        void put(int state, int sign, boolean right, int to, int says) {
-            int cell = cellOf(state, sign);
-            if (cell == NONE || !hasState(to)) {
+        static int saying(int move) {
+            return (move & 3) - 1;
+        }
+
+        int moveOf(int state, int sign) {
+            boolean known = state >= 0 && state < states && sign >= 0 && sign < SIGNS;
+            return known ? packed[state * SIGNS + sign] : NONE;
+        }
+
+        void put(int state, int sign, int move) {
+            if (!hasState(state) || !isSign(sign)) {
                 return;
             }
-            if (targets[cell] == NONE) {
-                size++;
-            }
-            targets[cell] = to;
-            rights[cell] = right;
-            sayings[cell] = says;
+            int cell = state * SIGNS + sign;
+            size += (move == NONE ? 0 : 1) - (packed[cell] == NONE ? 0 : 1);
+            packed[cell] = move;
             version++;
-        }
-
-        void remove(int state, int sign) {
-            int cell = cellOf(state, sign);
-            if (cell != NONE && targets[cell] != NONE) {
-                targets[cell] = NONE;
-                size--;
-                version++;
-            }
-        }
-
-        private int cellOf(int state, int sign) {
-            boolean known = state >= 0 && state < states && sign >= 0 && sign < SIGNS;
-            return known ? state * SIGNS + sign : NONE;
         }
     }
 
     /** THE TEXT, and the reading of it token by token. */
     private static final class Text {
-        private static final int FROM = 0, SIGN = 1, STEP = 2, WORD_TO = 3, TO = 4, BEHIND_TO = 5, SAID = 6, BEHIND_SAID = 7;
+        private static final int FROM = 0, SIGN = 1, STEP = 2, WORD_TO = 3, TO = 4, BEHIND_TO = 5;
+        private static final int SAID = 6, BEHIND_SAID = 7, OVER = 8;
 
         private final int[] bytes = new int[TEXT_MOST];
         private int size = 0;
@@ -480,16 +470,14 @@ public final class BothWays {
             end = 0;
             for (int tokens = 0; tokens <= TEXT_MOST; tokens++) {
                 findToken();
-                boolean over = start >= size;
-                boolean whole = slot == BEHIND_TO || slot == BEHIND_SAID;
-                int then = over ? NONE : slotBehind(slot, reader);
-                if (over && !whole || !over && then == NONE) {
+                int then = start < size ? slotBehind(slot, reader) : slotAtEnd(slot);
+                if (then == NONE) {
                     return start;
                 }
-                if (keep && (over || then == FROM)) {
-                    reader.put(from, sign, right, to, says);
+                if (keep && (then == FROM || then == OVER)) {
+                    reader.put(from, sign, Reader.pack(to, right, says));
                 }
-                if (over) {
+                if (then == OVER) {
                     return NONE;
                 }
                 slot = then;
@@ -546,6 +534,10 @@ public final class BothWays {
             }
         }
 
+        private static int slotAtEnd(int slot) {
+            return slot == BEHIND_TO || slot == BEHIND_SAID ? OVER : NONE;
+        }
+
         private boolean canStep() {
             return right ? sign != RIGHT_END : isHere("left") && sign != LEFT_END;
         }
@@ -600,15 +592,14 @@ public final class BothWays {
                 if (wasHere()) {
                     return;
                 }
-                int sign = signAt(row, n);
-                int to = reader.target(state, sign);
-                if (to == NONE) {
+                int move = reader.moveOf(state, signAt(row, n));
+                if (move == NONE) {
                     end = place > n && reader.takesIn(state) ? TAKES : STOPS;
                     return;
                 }
-                say(reader.saying(state, sign));
-                place += reader.goesRight(state, sign) ? 1 : -1;
-                state = to;
+                say(Reader.saying(move));
+                place += Reader.goesRight(move) ? 1 : -1;
+                state = Reader.target(move);
             }
         }
 
@@ -756,7 +747,7 @@ public final class BothWays {
             spent = false;
         }
 
-        /** The index of a key; if it is new, then its row is the parent's with one letter more (NONE: with no letters). */
+        /** A key's index; a new one's row is the parent's (NONE: the empty one) and a letter more (NONE: no letter). */
         int reach(long key, int parent, int letter) {
             int before = keys.size;
             int index = keys.indexWith(key);
@@ -832,11 +823,14 @@ public final class BothWays {
         private static long tableOfLetter(Reader reader, int letter) {
             long table = 0L;
             for (int state = 0; state < reader.states; state++) {
-                int to = reader.target(state, letter);
-                int leaves = to == NONE ? STOPS_WITHIN : 2 * to + (reader.goesRight(state, letter) ? 1 : 0);
+                int leaves = leavingLetter(reader.moveOf(state, letter));
                 table |= placed(leaves, 0, state) | placed(leaves, 1, state);
             }
             return table;
+        }
+
+        private static int leavingLetter(int move) {
+            return move == NONE ? STOPS_WITHIN : 2 * Reader.target(move) + (Reader.goesRight(move) ? 1 : 0);
         }
 
         private static long placed(int leaves, int side, int state) {
@@ -922,8 +916,8 @@ public final class BothWays {
         private long empty() {
             long backs = 0L;
             for (int state = 0; state < reader.states; state++) {
-                int to = reader.target(state, LEFT_END);
-                backs |= (long) (to == NONE ? STOPS_WITHIN : to) << 3 * (state + 1);
+                int move = reader.moveOf(state, LEFT_END);
+                backs |= (long) (move == NONE ? STOPS_WITHIN : Reader.target(move)) << 3 * (state + 1);
             }
             return backs | back(backs, 0);
         }
@@ -941,14 +935,14 @@ public final class BothWays {
         private int leaving(long beginning, int letter, int state) {
             int now = state;
             for (int turns = 0; turns <= STATES; turns++) {
-                int to = reader.target(now, letter);
-                if (to == NONE) {
+                int move = reader.moveOf(now, letter);
+                if (move == NONE) {
                     return STOPS_WITHIN;
                 }
-                if (reader.goesRight(now, letter)) {
-                    return to;
+                if (Reader.goesRight(move)) {
+                    return Reader.target(move);
                 }
-                now = back(beginning, to);
+                now = back(beginning, Reader.target(move));
                 if (now >= STOPS_WITHIN) {
                     return now;
                 }
@@ -959,11 +953,11 @@ public final class BothWays {
         private int endOf(long beginning) {
             int now = first(beginning);
             for (int turns = 0; turns <= STATES && now < STOPS_WITHIN; turns++) {
-                int to = reader.target(now, RIGHT_END);
-                if (to == NONE) {
+                int move = reader.moveOf(now, RIGHT_END);
+                if (move == NONE) {
                     return reader.takesIn(now) ? TAKES : STOPS;
                 }
-                now = back(beginning, to);
+                now = back(beginning, Reader.target(move));
             }
             return now == STOPS_WITHIN ? STOPS : AROUND;
         }
@@ -981,7 +975,7 @@ public final class BothWays {
         private final int[] nexts = new int[BEGINNINGS_MOST * LETTERS];
         // How many rows of a length up to 12 it takes from a state.
         private final int[] ways = new int[(TOLD_MOST + 1) * BEGINNINGS_MOST];
-        // How many rows of each length it takes, as far as it was asked for, and the same from each state for the next length.
+        // How many rows of each length it takes, as far as it was asked for; and by state for the next length.
         private final int[] series = new int[COUNTED_MOST + 1];
         private int seriesSize = 0;
         private int[] now = new int[BEGINNINGS_MOST];
@@ -1064,7 +1058,7 @@ public final class BothWays {
             return known ? ways[length * BEGINNINGS_MOST + state] : 0;
         }
 
-        /** Parts beginnings by whether they are taken, and then by the parts of what is one letter longer, till that parts no more. */
+        /** Parts beginnings by whether they are taken, then by the parts of those a letter longer, till none part. */
         private void part() {
             int beginnings = all.finds.keys.size;
             keys.clear();
