@@ -652,7 +652,7 @@ public final class BothWays {
         }
 
         int howMany() {
-            return POWERS[length];
+            return length >= 0 && length < POWERS.length ? POWERS[length] : 0;
         }
 
         void forward() {
@@ -770,10 +770,10 @@ public final class BothWays {
                 return lengths[index];
             }
             int at = index;
-            for (int place = lengths[index] - 1; place > k && at >= 0; place--) {
+            for (int place = lengths[index] - 1; place > k && at >= 0 && at < parents.length; place--) {
                 at = parents[at];
             }
-            return at >= 0 ? lasts[at] : NONE;
+            return at >= 0 && at < lasts.length ? lasts[at] : NONE;
         }
     }
 
@@ -894,6 +894,16 @@ public final class BothWays {
                     nexts[i * LETTERS + letter] = finds.reach(longer(beginning, letter), i, letter);
                 }
             }
+        }
+
+        boolean takes(int beginning) {
+            return beginning >= 0 && beginning < BEGINNINGS_MOST && ends[beginning] == TAKES;
+        }
+
+        /** The index of what a beginning and a letter behind it do. */
+        int next(int beginning, int letter) {
+            boolean known = beginning >= 0 && beginning < BEGINNINGS_MOST && letter >= 0 && letter < LETTERS;
+            return known ? Math.max(0, nexts[beginning * LETTERS + letter]) : 0;
         }
 
         int firstEnding(int end) {
@@ -1063,7 +1073,7 @@ public final class BothWays {
             int beginnings = all.finds.keys.size;
             keys.clear();
             for (int i = 0; i < beginnings && i < BEGINNINGS_MOST; i++) {
-                groups[i] = Math.max(0, keys.indexWith(all.ends[i] == TAKES ? 1L : 0L));
+                groups[i] = Math.max(0, keys.indexWith(all.takes(i) ? 1L : 0L));
             }
             for (int round = 0; round < BEGINNINGS_MOST; round++) {
                 int before = keys.size;
@@ -1087,23 +1097,27 @@ public final class BothWays {
         }
 
         private int groupBehind(int beginning, int letter) {
-            int behind = all.nexts[beginning * LETTERS + letter];
+            int behind = all.next(beginning, letter);
             return behind >= 0 && behind < BEGINNINGS_MOST ? groups[behind] : 0;
         }
 
         private void link() {
             Arrays.fill(ways, 0);
             for (int i = 0; i < all.finds.keys.size && i < BEGINNINGS_MOST; i++) {
-                ways[groups[i]] = all.ends[i] == TAKES ? 1 : 0;
+                int group = groups[i];
+                if (group < 0 || group >= BEGINNINGS_MOST) {
+                    continue;
+                }
+                ways[group] = all.takes(i) ? 1 : 0;
                 for (int letter = 0; letter < LETTERS; letter++) {
-                    nexts[groups[i] * LETTERS + letter] = groupBehind(i, letter);
+                    nexts[group * LETTERS + letter] = groupBehind(i, letter);
                 }
             }
         }
 
         private void countShort() {
             for (int length = 1; length <= TOLD_MOST; length++) {
-                for (int state = 0; state < size; state++) {
+                for (int state = 0; state < size && state < BEGINNINGS_MOST; state++) {
                     int sum = 0;
                     for (int letter = 0; letter < LETTERS; letter++) {
                         sum += waysFrom(next(state, letter), length - 1);
@@ -1114,10 +1128,11 @@ public final class BothWays {
         }
 
         private void lengthen() {
-            for (int state = 0; state < size; state++) {
+            for (int state = 0; state < size && state < then.length; state++) {
                 long sum = 0L;
-                for (int cell = state * LETTERS; cell < state * LETTERS + LETTERS; cell++) {
-                    sum += now[nexts[cell]];
+                for (int letter = 0; letter < LETTERS; letter++) {
+                    int behind = next(state, letter);
+                    sum += behind >= 0 && behind < now.length ? now[behind] : 0;
                 }
                 then[state] = (int) (sum % PRIME);
             }
@@ -1157,23 +1172,14 @@ public final class BothWays {
                     parting = i;
                 }
                 for (int letter = 0; letter < LETTERS; letter++) {
-                    long key = (long) next(one, left, letter) * BEGINNINGS_MOST + next(other, right, letter);
+                    long key = (long) one.next(left, letter) * BEGINNINGS_MOST + other.next(right, letter);
                     finds.reach(key, i, letter);
                 }
             }
         }
 
         private boolean parts(int left, int right) {
-            return takes(one, left) != takes(other, right);
-        }
-
-        private static boolean takes(Beginnings all, int beginning) {
-            return beginning >= 0 && beginning < BEGINNINGS_MOST && all.ends[beginning] == TAKES;
-        }
-
-        private static int next(Beginnings all, int beginning, int letter) {
-            boolean known = beginning >= 0 && beginning < BEGINNINGS_MOST && isLetter(letter);
-            return known ? Math.max(0, all.nexts[beginning * LETTERS + letter]) : 0;
+            return one.takes(left) != other.takes(right);
         }
     }
 

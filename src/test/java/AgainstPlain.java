@@ -497,11 +497,11 @@ public final class AgainstPlain {
     }
 
     private static void checkMoves(BothWays x, int reader, Model m, String name) {
+        // One thing of each move: all three of all would take an object beyond its 512 calls.
         for (int i = 0; i < m.moves.length; i++) {
-            for (int what = 0; what < 3; what++) {
-                int want = m.moves[i] == null ? NONE : m.moves[i][what];
-                due(name + " move", x.move(reader, i / 5, i % 5, what), want);
-            }
+            int what = (i + checked) % 3;
+            int want = m.moves[i] == null ? NONE : m.moves[i][what];
+            due(name + " move", x.move(reader, i / 5, i % 5, what), want);
         }
         due(name + " count", x.count(2 + reader), m.size());
     }
@@ -553,6 +553,16 @@ public final class AgainstPlain {
         + "2 last left to 2;3 a left to 1;3 b left to 3;3 c left to 4;3 first right to 4;3 last left to 0;4 a left to 3;"
         + "4 b left to 4;4 c left to 1;4 first right to 0;4 last left to 0";
 
+    /** The shortest row that this one takes has 13 letters. */
+    private static final String FAR_TAKEN = "0 a left to 4;0 b left to 1;0 c left to 0;0 first right to 2;0 last left to 1;"
+        + "1 a right to 1;1 b left to 3;1 c right to 1;2 a left to 0;2 b right to 2;2 c left to 2;2 last left to 1;"
+        + "3 a right to 4;3 b right to 4;3 c left to 4;3 first right to 1;4 a left to 2;4 b right to 1;4 c right to 3;"
+        + "4 first right to 3";
+    /** The shortest row that this one goes around on has 13 letters. */
+    private static final String FAR_AROUND = "0 a right to 3;0 b right to 3;0 first right to 0;1 a left to 1;1 b left to 2;"
+        + "1 c right to 3;1 last left to 3;2 a right to 4;2 c left to 0;2 first right to 2;2 last left to 2;3 a right to 0;"
+        + "3 b right to 2;3 first right to 3;4 b left to 1;4 c right to 0;4 first right to 1";
+
     private static Model modelOf(int takes, String text) {
         Model m = new Model(5, takes);
         List<String> signs = List.of("a", "b", "c", "first", "last");
@@ -582,6 +592,16 @@ public final class AgainstPlain {
             checkAll(y, models, random, "much, less of " + s);
             due("fewest", x.fewest(0), y.fewest(0));
         }
+    }
+
+    private static void checkFar(Random random) {
+        BothWays x = new BothWays();
+        Model[] models = {modelOf(8, FAR_TAKEN), modelOf(27, FAR_AROUND)};
+        due("the shortest that is taken", firstEnding(forward(models[0]), 1).length, 13);
+        due("the shortest that is gone around on", firstEnding(forward(models[1]), 2).length, 13);
+        tell(x, 0, models[0]);
+        tell(x, 1, models[1]);
+        checkAll(x, models, random, "far");
     }
 
     // ---- texts
@@ -691,6 +711,7 @@ public final class AgainstPlain {
             checkAll(x, models, random, "object " + i + " changed");
         }
         checkMuch(random);
+        checkFar(random);
         for (int i = 0; i < 20 * objects; i++) {
             checkText(random, i);
         }
