@@ -542,27 +542,6 @@ public final class AgainstPlain {
 
     // ---- readers of much
 
-    /** Of this one beginnings do 769 things unlike, and more than that no reader of five states can have. */
-    private static final String BROAD = "0 a right to 1;0 b left to 4;0 c right to 1;0 first right to 0;0 last left to 3;"
-        + "1 a right to 3;1 b right to 1;1 c right to 0;1 first right to 4;1 last left to 1;2 a left to 2;2 b left to 2;"
-        + "2 c left to 3;2 last left to 2;3 a left to 3;3 b right to 0;3 c left to 4;3 first right to 1;3 last left to 0;"
-        + "4 a left to 4;4 b left to 3;4 c left to 2;4 first right to 2;4 last left to 1";
-    /** The least reader that goes only to the right has 83 states for this one. */
-    private static final String DEEP = "0 a right to 0;0 b right to 1;0 c right to 1;0 first right to 3;0 last left to 3;"
-        + "1 a right to 1;1 b right to 0;1 c right to 2;2 a right to 2;2 b right to 2;2 c right to 0;2 first right to 3;"
-        + "2 last left to 2;3 a left to 1;3 b left to 3;3 c left to 4;3 first right to 4;3 last left to 0;4 a left to 3;"
-        + "4 b left to 4;4 c left to 1;4 first right to 0;4 last left to 0";
-
-    /** The shortest row that this one takes has 13 letters. */
-    private static final String FAR_TAKEN = "0 a left to 4;0 b left to 1;0 c left to 0;0 first right to 2;0 last left to 1;"
-        + "1 a right to 1;1 b left to 3;1 c right to 1;2 a left to 0;2 b right to 2;2 c left to 2;2 last left to 1;"
-        + "3 a right to 4;3 b right to 4;3 c left to 4;3 first right to 1;4 a left to 2;4 b right to 1;4 c right to 3;"
-        + "4 first right to 3";
-    /** The shortest row that this one goes around on has 13 letters. */
-    private static final String FAR_AROUND = "0 a right to 3;0 b right to 3;0 first right to 0;1 a left to 1;1 b left to 2;"
-        + "1 c right to 3;1 last left to 3;2 a right to 4;2 c left to 0;2 first right to 2;2 last left to 2;3 a right to 0;"
-        + "3 b right to 2;3 first right to 3;4 b left to 1;4 c right to 0;4 first right to 1";
-
     private static Model modelOf(int takes, String text) {
         Model m = new Model(5, takes);
         List<String> signs = List.of("a", "b", "c", "first", "last");
@@ -576,7 +555,7 @@ public final class AgainstPlain {
 
     private static void checkMuch(Random random) {
         BothWays x = new BothWays();
-        Model[] models = {modelOf(12, BROAD), modelOf(11, DEEP)};
+        Model[] models = {modelOf(12, Readers.BROAD), modelOf(11, Readers.DEEP)};
         due("things of the broad one", forward(models[0]).rows.size(), 769);
         due("states of the deep one", forward(models[1]).classes, 83);
         tell(x, 0, models[0]);
@@ -596,7 +575,7 @@ public final class AgainstPlain {
 
     private static void checkFar(Random random) {
         BothWays x = new BothWays();
-        Model[] models = {modelOf(8, FAR_TAKEN), modelOf(27, FAR_AROUND)};
+        Model[] models = {modelOf(8, Readers.FAR_TAKEN), modelOf(27, Readers.FAR_AROUND)};
         due("the shortest that is taken", firstEnding(forward(models[0]), 1).length, 13);
         due("the shortest that is gone around on", firstEnding(forward(models[1]), 2).length, 13);
         tell(x, 0, models[0]);

@@ -8,27 +8,6 @@ public final class EdgesOfCounts {
     private static final int TAKES = 1, AROUND = 2;
     private static final int PRIME = 1000000007;
     private static final String FULL_ROW = "abcabcabcabcabcabcabcabc";
-    /** Counts letters by five (5 states). */
-    private static final String BY_FIVE = "0 first right to 0;0 a right to 1;1 a right to 2;2 a right to 3;3 a right to 4;4 a right to 0;"
-        + "0 b right to 1;1 b right to 2;2 b right to 3;3 b right to 4;4 b right to 0;"
-        + "0 c right to 1;1 c right to 2;2 c right to 3;3 c right to 4;4 c right to 0";
-    /** With state 3 that takes: the shortest row of it has 13 letters, and no other one of 13 is taken. */
-    private static final String FAR_TAKEN = "0 a left to 4;0 b left to 1;0 c left to 0;0 first right to 2;0 last left to 1;"
-        + "1 a right to 1;1 b left to 3;1 c right to 1;2 a left to 0;2 b right to 2;2 c left to 2;2 last left to 1;"
-        + "3 a right to 4;3 b right to 4;3 c left to 4;3 first right to 1;4 a left to 2;4 b right to 1;4 c right to 3;"
-        + "4 first right to 3";
-    private static final String FAR_ROW = "bbbacacacacbc";
-    /** The shortest row that this one goes around on has 13 letters (5 states). */
-    private static final String FAR_AROUND = "0 a right to 3;0 b right to 3;0 first right to 0;1 a left to 1;1 b left to 2;"
-        + "1 c right to 3;1 last left to 3;2 a right to 4;2 c left to 0;2 first right to 2;2 last left to 2;3 a right to 0;"
-        + "3 b right to 2;3 first right to 3;4 b left to 1;4 c right to 0;4 first right to 1";
-    private static final String FAR_AROUND_ROW = "abacababaabab";
-    /** Of this one beginnings do 769 things unlike, and more than that no reader of five states can have. */
-    private static final String BROAD = "0 a right to 1;0 b left to 4;0 c right to 1;0 first right to 0;0 last left to 3;"
-        + "1 a right to 3;1 b right to 1;1 c right to 0;1 first right to 4;1 last left to 1;2 a left to 2;2 b left to 2;"
-        + "2 c left to 3;2 last left to 2;3 a left to 3;3 b right to 0;3 c left to 4;3 first right to 1;3 last left to 0;"
-        + "4 a left to 4;4 b left to 3;4 c left to 2;4 first right to 2;4 last left to 1";
-
     private static int power(int base, int n) {
         return BigInteger.valueOf(base).modPow(BigInteger.valueOf(n), BigInteger.valueOf(PRIME)).intValue();
     }
@@ -37,8 +16,8 @@ public final class EdgesOfCounts {
 
     private static void manyOfAllLengths() {
         Subject.sentence("MANY of a length (0 .. 10000)");
-        Subject s = Subject.with(1, 1, Subject.ONWARD);
-        s.tell(1, 2, 1, Subject.EVEN);
+        Subject s = Subject.with(1, 1, Readers.ONWARD);
+        s.tell(1, 2, 1, Readers.EVEN);
         for (int n : new int[] {0, 1, 2, 12, 13, 24, 25, 800, 801, 4001, 9999, 10000, 5000, 3, 0}) {
             s.due(power(3, n), "many", 0, n);
             s.due(n == 0 ? 1 : power(2, n - 1), "many", 1, n);
@@ -71,13 +50,13 @@ public final class EdgesOfCounts {
     private static void manyByFive() {
         Subject.sentence("how many of them a READER TAKES: none of some lengths, all of others");
         for (int state = 0; state < 5; state++) {
-            Subject s = Subject.with(5, 1 << state, BY_FIVE);
+            Subject s = Subject.with(5, 1 << state, Readers.BY_FIVE);
             for (int n : new int[] {0, 1, 2, 3, 4, 5, 6, 9996, 9997, 9998, 9999, 10000}) {
                 s.due(n % 5 == state ? power(3, n) : 0, "many", 0, n);
             }
         }
         Subject.sentence("how many it TAKES: not those that it goes AROUND on, or STOPS on");
-        Subject t = Subject.with(2, 3, Subject.ONWARD + ";0 last left to 1;1 a right to 0;1 b left to 1");
+        Subject t = Subject.with(2, 3, Readers.ONWARD + ";0 last left to 1;1 a right to 0;1 b left to 1");
         // Behind c it stops, behind a it is around; behind b it goes on to the left, and then likewise, or stops at the end.
         for (int n = 0; n <= 6; n++) {
             t.due(0, "many", 0, n);
@@ -90,7 +69,7 @@ public final class EdgesOfCounts {
 
     private static void ofInOrder() {
         Subject.sentence("ROWS of a length come in order by the first LETTER that is unlike");
-        Subject s = Subject.with(1, 1, Subject.ONWARD);
+        Subject s = Subject.with(1, 1, Readers.ONWARD);
         for (int i = 0; i < 27; i++) {
             s.due(i / 9, "of", 0, 3, i, 0);
             s.due(i / 3 % 3, "of", 0, 3, i, 1);
@@ -115,7 +94,7 @@ public final class EdgesOfCounts {
 
     private static void ofBounds() {
         Subject.sentence("OF a length (0 .. 12); OUTSIDE: n, i, k below 0");
-        Subject s = Subject.with(2, 1, Subject.EVEN);
+        Subject s = Subject.with(2, 1, Readers.EVEN);
         for (int n : new int[] {-1, 13, 14, 24, LEAST, GREATEST}) {
             s.due(OUTSIDE, "of", 0, n, 0, 0);
             s.due(OUTSIDE, "of", 0, n, GREATEST, GREATEST);
@@ -143,7 +122,7 @@ public final class EdgesOfCounts {
 
     private static void ranks() {
         Subject.sentence("Which of the rows of its length that a READER TAKES THE ROW is");
-        Subject s = Subject.with(2, 1, Subject.EVEN);
+        Subject s = Subject.with(2, 1, Readers.EVEN);
         s.due(0, "rank", 0);
         s.letters("bbbbbbbbbbbb");
         s.due(2047, "rank", 0);
@@ -189,18 +168,19 @@ public final class EdgesOfCounts {
         Subject.sentence("FEWEST: how many are unlike so: STATES of the least reader that goes only to the right");
         Subject s = new Subject();
         s.due(1, "fewest", 0);
-        s.tell(0, 1, 1, Subject.ONWARD);
+        s.tell(0, 1, 1, Readers.ONWARD);
         s.due(1, "fewest", 0);
         s.due(3, "drop", 0, 0, C);
         s.due(2, "fewest", 0);
-        s.tell(1, 5, 16, BY_FIVE);
+        s.tell(1, 5, 16, Readers.BY_FIVE);
         s.due(5, "fewest", 1);
         s.due(15, "drop", 1, 3, C);
         s.due(6, "fewest", 1);
-        s.tell(1, 5, 31, BY_FIVE);
+        s.tell(1, 5, 31, Readers.BY_FIVE);
         s.due(1, "fewest", 1);
+        Subject.with(5, 11, Readers.DEEP).due(83, "fewest", 0);
         Subject.sentence("whatever LETTERS come behind both, it TAKES both or none");
-        s.tell(1, 5, 16, BY_FIVE);
+        s.tell(1, 5, 16, Readers.BY_FIVE);
         s.letters(FULL_ROW);
         for (int i = 0; i <= 24; i += 3) {
             for (int j = 0; j <= 24; j++) {
@@ -231,7 +211,7 @@ public final class EdgesOfCounts {
         }
     }
 
-    private static void aheadOfTheLeftEnd() {
+    private static void alikeBehindTheLeftEnd() {
         Subject.sentence("BEGINNINGS are ALIKE: AROUND and STOPS, too, where neither is taken whatever comes behind");
         Subject s = Subject.with(2, 1, "0 first right to 0;0 a right to 0;0 b left to 1;1 a right to 0;1 first right to 1");
         s.letters("acab");
@@ -243,7 +223,7 @@ public final class EdgesOfCounts {
         s.due(1, "alike", 0, 2, 4);
         s.due(1, "alike", 0, 0, 1);
         Subject.sentence("ALIKE by the rows that are taken, though what they do is unlike");
-        Subject t = Subject.with(3, 4, Subject.BACKWARDS);
+        Subject t = Subject.with(3, 4, Readers.BACKWARDS);
         t.letters("abc");
         t.due(1, "fewest", 0);
         t.due(1, "alike", 0, 0, 3);
@@ -251,7 +231,7 @@ public final class EdgesOfCounts {
 
     private static void mostBeginnings() {
         Subject.sentence("What a BEGINNING does: 769 unlike things are not SPENT");
-        Subject s = Subject.with(5, 12, BROAD);
+        Subject s = Subject.with(5, 12, Readers.BROAD);
         s.letters("abcabcabc");
         for (String call : new String[] {"fewest", "rank"}) {
             Subject.check(call, Math.min(NONE, s.ask(call, 0)), NONE);
@@ -269,7 +249,7 @@ public final class EdgesOfCounts {
 
     private static void shortestRows() {
         Subject.sentence("SHORTEST: of the rows that it TAKES the shortest, the first of these");
-        Subject s = Subject.with(1, 1, Subject.ONWARD);
+        Subject s = Subject.with(1, 1, Readers.ONWARD);
         s.dueTold("", "shortest", 0);
         s.dueTold(null, "shortest", 1);
         // c is shorter than aa, though behind it in a list of words.
@@ -286,19 +266,19 @@ public final class EdgesOfCounts {
         s.due(2, "drop", 1, 0, B);
         s.dueTold(null, "shortest", 1);
         Subject.sentence("SHORTEST: longer than any row that of and rank can tell");
-        Subject t = Subject.with(5, 8, FAR_TAKEN);
-        t.dueTold(FAR_ROW, "shortest", 0);
+        Subject t = Subject.with(5, 8, Readers.FAR_TAKEN);
+        t.dueTold(Readers.FAR_ROW, "shortest", 0);
         t.due(0, "many", 0, 12);
         t.due(1, "many", 0, 13);
-        t.letters(FAR_ROW);
+        t.letters(Readers.FAR_ROW);
         t.due(TAKES, "run", 0, 0);
-        t.dueTold(FAR_ROW, "parted");
+        t.dueTold(Readers.FAR_ROW, "parted");
         bounds("shortest", t);
     }
 
     private static void roundRows() {
         Subject.sentence("ROUND likewise of those on which it goes AROUND");
-        Subject s = Subject.with(2, 1, Subject.ONWARD);
+        Subject s = Subject.with(2, 1, Readers.ONWARD);
         s.dueTold(null, "round", 0);
         s.dueTold(null, "round", 1);
         // Back on the last letter, and to the right end once more, where it was; without letters it stops.
@@ -315,9 +295,9 @@ public final class EdgesOfCounts {
         s.due(5, "drop", 0, 0, RIGHT_END);
         s.dueTold(null, "round", 0);
         Subject.sentence("ROUND: of 13 letters");
-        Subject t = Subject.with(5, 27, FAR_AROUND);
-        t.dueTold(FAR_AROUND_ROW, "round", 0);
-        t.letters(FAR_AROUND_ROW);
+        Subject t = Subject.with(5, 27, Readers.FAR_AROUND);
+        t.dueTold(Readers.FAR_AROUND_ROW, "round", 0);
+        t.letters(Readers.FAR_AROUND_ROW);
         t.due(AROUND, "run", 0, 0);
         bounds("round", t);
     }
@@ -338,9 +318,9 @@ public final class EdgesOfCounts {
         Subject.sentence("PARTED: likewise of those that one READER TAKES, the other one not");
         Subject s = new Subject();
         s.dueTold(null, "parted");
-        s.tell(0, 1, 1, Subject.ONWARD);
+        s.tell(0, 1, 1, Readers.ONWARD);
         s.dueTold("", "parted");
-        s.tell(1, 1, 1, Subject.ONWARD);
+        s.tell(1, 1, 1, Readers.ONWARD);
         s.dueTold(null, "parted");
         s.due(3, "drop", 1, 0, B);
         s.dueTold("b", "parted");
@@ -349,12 +329,12 @@ public final class EdgesOfCounts {
         s.due(2, "drop", 0, 0, A);
         s.dueTold("a", "parted");
         Subject.sentence("PARTED: what both do not take parts none, though one STOPS and the other one goes AROUND");
-        s.tell(0, 1, 0, Subject.ONWARD + ";0 last left to 0");
-        s.tell(1, 1, 0, Subject.ONWARD);
+        s.tell(0, 1, 0, Readers.ONWARD + ";0 last left to 0");
+        s.tell(1, 1, 0, Readers.ONWARD);
         s.dueTold(null, "parted");
         Subject.sentence("PARTED: the shortest, longer than each reader's states");
-        s.tell(0, 5, 1, BY_FIVE);
-        s.tell(1, 5, 17, BY_FIVE);
+        s.tell(0, 5, 1, Readers.BY_FIVE);
+        s.tell(1, 5, 17, Readers.BY_FIVE);
         s.dueTold("aaaa", "parted");
         s.due(15, "drop", 1, 1, A);
         s.dueTold("abaa", "parted");
@@ -365,21 +345,21 @@ public final class EdgesOfCounts {
 
     private static void fourThousandPairs() {
         Subject.sentence("SPENT also, if there are more than 4000 pairs of what BEGINNINGS do");
-        Subject s = Subject.with(5, 23, Subject.PAIRS_4000);
-        s.tell(1, 5, 8, Subject.PAIRS_4000_OTHER);
+        Subject s = Subject.with(5, 23, Readers.PAIRS_4000);
+        s.tell(1, 5, 8, Readers.PAIRS_4000_OTHER);
         s.dueTold("", "parted");
-        Subject t = Subject.with(5, 23, Subject.PAIRS_4001);
-        t.tell(1, 5, 3, Subject.PAIRS_4001_OTHER);
+        Subject t = Subject.with(5, 23, Readers.PAIRS_4001);
+        t.tell(1, 5, 3, Readers.PAIRS_4001_OTHER);
         for (int k : new int[] {-1, 0, 1, GREATEST}) {
             t.due(SPENT, "parted", k);
         }
         t.due(OUTSIDE, "parted", -2);
         Subject.sentence("SPENT (whether any parts both or not)");
-        Subject u = Subject.with(5, 0, Subject.PAIRS_4000);
-        u.tell(1, 5, 0, Subject.PAIRS_4000_OTHER);
+        Subject u = Subject.with(5, 0, Readers.PAIRS_4000);
+        u.tell(1, 5, 0, Readers.PAIRS_4000_OTHER);
         u.dueTold(null, "parted");
-        Subject v = Subject.with(5, 0, Subject.PAIRS_4001);
-        v.tell(1, 5, 0, Subject.PAIRS_4001_OTHER);
+        Subject v = Subject.with(5, 0, Readers.PAIRS_4001);
+        v.tell(1, 5, 0, Readers.PAIRS_4001_OTHER);
         v.due(SPENT, "parted", -1);
         v.due(SPENT, "parted", 0);
         Subject.sentence("SPENT pairs are no matter for what asks for one READER");
@@ -388,7 +368,7 @@ public final class EdgesOfCounts {
         Subject.sentence("PARTED of both as they are now");
         t.due(1, "reader", 1, 5, 3);
         Subject.check("fewer pairs", Math.min(NONE, t.ask("parted", -1)), NONE);
-        t.moves(1, Subject.PAIRS_4001_OTHER);
+        t.moves(1, Readers.PAIRS_4001_OTHER);
         t.due(SPENT, "parted", -1);
     }
 
@@ -400,8 +380,8 @@ public final class EdgesOfCounts {
         for (int n = 0; n <= 7; n++) {
             s.dueTold(null, "otherwise", n);
         }
-        s.tell(0, 1, 1, Subject.ECHO);
-        s.tell(1, 1, 1, Subject.ECHO);
+        s.tell(0, 1, 1, Readers.ECHO);
+        s.tell(1, 1, 1, Readers.ECHO);
         s.dueTold(null, "otherwise", 7);
         Subject.sentence("lengths up to n: the empty row, too");
         s.moves(1, "0 first right to 0 say a");
@@ -433,8 +413,8 @@ public final class EdgesOfCounts {
     private static void otherwiseLengths() {
         Subject.sentence("OTHERWISE for lengths up to n (0 .. 7)");
         for (int state = 0; state < 5; state++) {
-            Subject s = Subject.with(5, 1 << state, BY_FIVE);
-            s.tell(1, 5, 1 << state, BY_FIVE);
+            Subject s = Subject.with(5, 1 << state, Readers.BY_FIVE);
+            s.tell(1, 5, 1 << state, Readers.BY_FIVE);
             s.moves(1, "4 b right to 0 say a;3 c right to 4 say a");
             String want = new String[] {"aaaab", "aaaaba", "aaaabaa", "", "aaac"}[state];
             for (int n = 0; n <= 7; n++) {
@@ -455,8 +435,8 @@ public final class EdgesOfCounts {
 
     private static void mostMoves() {
         Subject.sentence("MOST of a length (0 .. 7)");
-        Subject s = Subject.with(1, 1, Subject.ONWARD);
-        s.tell(1, 3, 4, Subject.BACKWARDS);
+        Subject s = Subject.with(1, 1, Readers.ONWARD);
+        s.tell(1, 3, 4, Readers.BACKWARDS);
         for (int n = 0; n <= 7; n++) {
             s.due(n + 1, "most", 0, n);
             s.due(3 * (n + 1), "most", 1, n);
@@ -488,12 +468,85 @@ public final class EdgesOfCounts {
         }
     }
 
+    /** On a and b it stops at once, so that only the last row of a length is gone over to its end. */
+    private static void lastRowOfLength() {
+        Subject.sentence("MOST and OTHERWISE: the last row of a length, too");
+        String onC = "0 first right to 0;0 c right to 1;1 c right to 2;2 c right to 3;3 c right to 4;4 c right to 0";
+        for (int n = 1; n <= 7; n++) {
+            Subject s = Subject.with(5, 1 << n % 5, onC);
+            s.tell(1, 5, 1 << n % 5, onC);
+            s.due(n + 1, "most", 0, n);
+            s.moves(1, "0 c right to 1 say a");
+            String shortest = Subject.times("c", n % 5 == 0 ? 5 : n % 5);
+            for (int up = 0; up <= 7; up++) {
+                s.dueTold(shortest.length() <= up ? shortest : null, "otherwise", up);
+            }
+        }
+        for (int n : new int[] {6, 7}) {
+            // By five and by four: both take n letters first.
+            Subject s = Subject.with(5, 1 << n % 5, onC);
+            s.tell(1, 4, 1 << n % 4, "0 first right to 0;0 c right to 1;1 c right to 2;2 c right to 3;3 c right to 0 say b");
+            s.dueTold(Subject.times("c", n), "otherwise", 7);
+            s.dueTold(null, "otherwise", n - 1);
+        }
+    }
+
+    private static void otherwiseAnew() {
+        Subject.sentence("OTHERWISE of both as they are now: a row ahead of the one before, and behind it");
+        Subject s = Subject.with(1, 1, Readers.ECHO);
+        s.tell(1, 1, 1, Readers.ECHO + ";0 c right to 0");
+        s.dueTold("c", "otherwise", 7);
+        s.moves(0, "0 a right to 0 say b");
+        s.dueTold("a", "otherwise", 7);
+        s.moves(1, "0 a right to 0 say b");
+        s.dueTold("c", "otherwise", 7);
+        s.dueTold(null, "otherwise", 0);
+        s.dueTold("c", "otherwise", 1);
+        s.moves(0, "0 first right to 0 say a");
+        s.dueTold("", "otherwise", 0);
+        s.due(1, "reader", 1, 1, 1);
+        s.dueTold(null, "otherwise", 7);
+    }
+
+    private static void mostByRuns() {
+        Subject.sentence("MOST: as many as run tells of the rows of the length");
+        for (String moves : new String[] {Readers.ALL_PLACES, Readers.FAR_TAKEN, Readers.BROAD}) {
+            Subject asked = Subject.with(5, 16, moves);
+            for (int n = 0; n <= 6; n++) {
+                asked.due(mostOfRuns(moves, n), "most", 0, n);
+            }
+        }
+        Subject s = Subject.with(5, 16, Readers.ALL_PLACES);
+        for (int n = 0; n <= 6; n += 2) {
+            s.due(5 * (n + 2) - 1, "most", 0, n);
+        }
+    }
+
+    private static int mostOfRuns(String moves, int n) {
+        int best = NONE;
+        Subject s = Subject.with(5, 16, moves);
+        for (int row = 0; row < Math.pow(3, n); row++) {
+            if (s.callsLeft() < 3) {
+                s = Subject.with(5, 16, moves);
+            }
+            long bits = 0;
+            for (int i = 0, rest = row; i < n; i++, rest /= 3) {
+                bits |= (long) (rest % 3) << 2 * i;
+            }
+            s.row(bits, n);
+            if (s.ask("run", 0, 0) != AROUND) {
+                best = Math.max(best, s.ask("run", 0, 1));
+            }
+        }
+        return best;
+    }
+
     // ---- 26: count, and the 512 calls
 
     private static void counts() {
         Subject.sentence("0 LETTERS of THE ROW, 1 bytes of THE TEXT, 2 MOVES of READER 0, 3 of READER 1");
         Subject s = Subject.with(5, 0, Subject.allMoves(5));
-        s.tell(1, 2, 0, Subject.EVEN);
+        s.tell(1, 2, 0, Readers.EVEN);
         s.letters(FULL_ROW);
         s.text(Subject.times(" ", 160));
         int[] want = {24, 160, 25, 5};
@@ -507,8 +560,8 @@ public final class EdgesOfCounts {
 
     private static void allCalls() {
         Subject.sentence("An object is used for at most 512 calls");
-        Subject s = Subject.with(5, 8, FAR_TAKEN);
-        s.tell(1, 5, 27, FAR_AROUND);
+        Subject s = Subject.with(5, 8, Readers.FAR_TAKEN);
+        s.tell(1, 5, 27, Readers.FAR_AROUND);
         for (int i = 0; s.callsLeft() > 12; i++) {
             s.due(19, "drop", 0, 4, 3);
             s.due(16, "drop", 1, 4, 3);
@@ -533,7 +586,7 @@ public final class EdgesOfCounts {
         ofBounds();
         ranks();
         fewestAndAlike();
-        aheadOfTheLeftEnd();
+        alikeBehindTheLeftEnd();
         mostBeginnings();
         shortestRows();
         roundRows();
@@ -542,6 +595,9 @@ public final class EdgesOfCounts {
         otherwiseRows();
         otherwiseLengths();
         mostMoves();
+        lastRowOfLength();
+        otherwiseAnew();
+        mostByRuns();
         counts();
         allCalls();
         Subject.finish();

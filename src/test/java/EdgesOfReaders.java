@@ -109,7 +109,7 @@ public final class EdgesOfReaders {
     private static void withoutMoves() {
         Subject.sentence("A READER becomes so, without MOVES");
         Subject s = Subject.with(5, 31, Subject.allMoves(5));
-        s.tell(1, 2, 1, Subject.EVEN);
+        s.tell(1, 2, 1, Readers.EVEN);
         s.text(GOOD);
         s.letters("ab");
         s.due(25, "count", 2);
@@ -479,6 +479,23 @@ public final class EdgesOfReaders {
         t.due(NONE, "move", 0, 0, A, 2);
     }
 
+    private static void signsAndLettersInOrder() {
+        Subject.sentence("G one of a b c first last (SIGNS 0 .. 4), L one of a b c");
+        String[] signs = {"a", "b", "c", "first", "last"};
+        for (int sign = 0; sign < 5; sign++) {
+            for (int letter = 0; letter < 3; letter++) {
+                Subject s = new Subject();
+                s.text("0 " + signs[sign] + (sign == RIGHT_END ? " left" : " right") + " to 0 say " + signs[letter]);
+                s.due(1, "moves", 0);
+                for (int other = 0; other < 5; other++) {
+                    s.due(other == sign ? 0 : NONE, "move", 0, 0, other, 0);
+                    s.due(other == sign ? sign == RIGHT_END ? 0 : 1 : NONE, "move", 0, 0, other, 1);
+                    s.due(other == sign ? letter : NONE, "move", 0, 0, other, 2);
+                }
+            }
+        }
+    }
+
     private static void textOfMoves() {
         Subject.sentence("THE TEXT's MOVES are a READER's, and THE TEXT is empty then: how many it has");
         Subject s = new Subject();
@@ -582,6 +599,7 @@ public final class EdgesOfReaders {
         wordsAsWritten();
         fullText();
         oneForStateAndSign();
+        signsAndLettersInOrder();
         textOfMoves();
         moveTold();
         droppingAll();

@@ -24,7 +24,7 @@ public final class EdgesOfRows {
 
     private static void lettersOneByOne() {
         Subject.sentence("A LETTER (0 .. 2) more of THE ROW: how many");
-        Subject s = Subject.with(1, 1, Subject.ECHO);
+        Subject s = Subject.with(1, 1, Readers.ECHO);
         for (int i = 0; i < 24; i++) {
             s.due(i + 1, "letter", (i * i + i / 5) % 3);
             s.due(i + 1, "count", 0);
@@ -56,7 +56,7 @@ public final class EdgesOfRows {
     private static void rowsOfAllLengths() {
         Subject.sentence("THE ROW becomes n LETTERS (0 .. 24), LETTER i row >> 2 i & 3");
         for (int n = 0; n <= 24; n++) {
-            Subject s = Subject.with(1, 1, Subject.ECHO);
+            Subject s = Subject.with(1, 1, Readers.ECHO);
             s.letters("cccc");
             s.letters(FULL_ROW.substring(24 - n));
             s.due(n, "count", 0);
@@ -70,7 +70,7 @@ public final class EdgesOfRows {
             }
         }
         Subject.sentence("n LETTERS (0 .. 24): OUTSIDE, ahead of a LETTER 3");
-        Subject s = Subject.with(1, 1, Subject.ECHO);
+        Subject s = Subject.with(1, 1, Readers.ECHO);
         s.letters("cab");
         for (int n : new int[] {25, 26, 32, -1, LEAST, GREATEST}) {
             s.dueRow(OUTSIDE, 0L, n);
@@ -83,7 +83,7 @@ public final class EdgesOfRows {
     private static void letterThree() {
         Subject.sentence("UNKNOWN: a LETTER 3");
         for (int n = 1; n <= 24; n++) {
-            Subject s = Subject.with(1, 1, Subject.ECHO);
+            Subject s = Subject.with(1, 1, Readers.ECHO);
             s.letters("cabcab");
             for (int i = 0; i < n; i++) {
                 s.dueRow(UNKNOWN, 3L << 2 * i, n);
@@ -101,7 +101,7 @@ public final class EdgesOfRows {
     private static void places() {
         Subject.sentence("A ROW stands on places 1 .. n, the LEFT end on 0, the RIGHT end on n + 1");
         for (int n = 0; n <= 24; n++) {
-            Subject s = Subject.with(1, 1, Subject.ONWARD);
+            Subject s = Subject.with(1, 1, Readers.ONWARD);
             s.letters(FULL_ROW.substring(0, n));
             dueRun(s, 0, TAKES, n + 1, n + 1, 0, 0);
             dueRun(s, 1, STOPS, 0, 0, 0, 0);
@@ -158,7 +158,7 @@ public final class EdgesOfRows {
         dueRun(s, 0, AROUND, 2, 0, 0, 2);
         dueSaid(s, 0, "ab");
         Subject.sentence("not the same STATE on another place");
-        Subject t = Subject.with(1, 1, Subject.ONWARD);
+        Subject t = Subject.with(1, 1, Readers.ONWARD);
         t.letters("aa");
         dueRun(t, 0, TAKES, 3, 3, 0, 0);
         Subject.sentence("not the same place in another STATE");
@@ -203,6 +203,25 @@ public final class EdgesOfRows {
         dueRun(u, 0, STOPS, 1 + 12 * 6, 25, 0, 0);
     }
 
+    private static void allPlacesInAllStates() {
+        Subject.sentence("how many MOVES: on all 26 places in all five STATES, and no more can be");
+        Subject s = Subject.with(5, 16, Readers.ALL_PLACES);
+        s.letters(Subject.times("ab", 12));
+        dueRun(s, 0, TAKES, 129, 25, 4, 129);
+        s.due(A, "said", 0, 128);
+        s.due(NONE, "said", 0, 129);
+        s.moves(0, "4 last left to 0 say c");
+        dueRun(s, 0, AROUND, 130, 24, 0, 130);
+        s.due(A, "said", 0, 128);
+        s.due(C, "said", 0, 129);
+        s.due(NONE, "said", 0, 130);
+        Subject.sentence("the same on fewer places");
+        for (int n = 0; n <= 24; n += 2) {
+            s.letters(Subject.times("ab", n / 2));
+            dueRun(s, 0, AROUND, 5 * (n + 2), n, 0, 5 * (n + 2));
+        }
+    }
+
     private static void sayings() {
         Subject.sentence("what it SAYS (a LETTER, or nothing)");
         Subject s = Subject.with(1, 1, "0 first right to 0;0 a right to 0 say c;0 b right to 0;0 c right to 0 say a");
@@ -229,7 +248,7 @@ public final class EdgesOfRows {
 
     private static void runsAreNew() {
         Subject.sentence("A READER on THE ROW: as both are now");
-        Subject s = Subject.with(2, 1, Subject.EVEN);
+        Subject s = Subject.with(2, 1, Readers.EVEN);
         s.letters("b");
         dueRun(s, 0, STOPS, 2, 2, 1, 0);
         s.due(2, "letter", B);
@@ -262,7 +281,7 @@ public final class EdgesOfRows {
             dueTable(s, 0, "b", none, none);
         }
         Subject.sentence("NOT: THE ROW has no LETTERS");
-        Subject s = Subject.with(2, 1, Subject.EVEN);
+        Subject s = Subject.with(2, 1, Readers.EVEN);
         s.due(NOT, "table", 0, 0, 0);
         s.due(NOT, "table", 0, 1, 1);
         s.due(UNKNOWN, "table", 0, 1, 2);
@@ -341,8 +360,8 @@ public final class EdgesOfRows {
 
     private static void eightHundredKinds() {
         Subject.sentence("KINDS: how many unlike TABLES; SPENT: more than 800");
-        Subject s = Subject.with(4, 13, Subject.KINDS_800);
-        s.tell(1, 4, 8, Subject.KINDS_801);
+        Subject s = Subject.with(4, 13, Readers.KINDS_800);
+        s.tell(1, 4, 8, Readers.KINDS_801);
         s.due(800, "kinds", 0);
         s.due(SPENT, "kinds", 1);
         Subject.sentence("like: SPENT, and what is ahead of it");
@@ -379,7 +398,7 @@ public final class EdgesOfRows {
         t.moves(0, "0 b right to 0;0 c right to 0");
         t.due(1, "kinds", 0);
         Subject.sentence("KINDS: what takes, what it says and moves by the ends are no part of a TABLE");
-        Subject u = Subject.with(1, 1, Subject.ECHO + ";0 last left to 0");
+        Subject u = Subject.with(1, 1, Readers.ECHO + ";0 last left to 0");
         u.due(1, "kinds", 0);
         Subject.sentence("KINDS: what leaves from the one side, and what from the other one");
         Subject v = Subject.with(1, 0, "0 a right to 0;0 b left to 0;0 c left to 0");
@@ -396,6 +415,7 @@ public final class EdgesOfRows {
         whereItTakes();
         goingAround();
         manyMoves();
+        allPlacesInAllStates();
         sayings();
         runsAreNew();
         tableOfOneLetter();

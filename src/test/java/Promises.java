@@ -4,44 +4,6 @@ public final class Promises {
     private static final int LEAST = Integer.MIN_VALUE, GREATEST = Integer.MAX_VALUE;
     private static final int A = 0, B = 1, C = 2;
 
-    /** Takes rows of a and b with an even number of b. */
-    private static final String EVEN = "0 first right to 0;0 a right to 0;0 b right to 1;1 a right to 1;1 b right to 0";
-    /** Goes to the right over all letters. */
-    private static final String ONWARD = "0 first right to 0;0 a right to 0;0 b right to 0;0 c right to 0";
-    /** Goes to the right end, back to the left end and says the row backwards, and goes to the right end again. */
-    private static final String[] BACKWARDS = {
-        ONWARD + ";0 last left to 1",
-        "1 a left to 1 say a;1 b left to 1 say b;1 c left to 1 say c;1 first right to 2;2 a right to 2",
-        "2 b right to 2;2 c right to 2"};
-    private static final String[] KINDS_800 = {
-        "0 a left to 3;0 b left to 0;0 c left to 3;0 first right to 3;1 a right to 0;1 b right to 0;1 last left to 1",
-        "2 a left to 3;2 b right to 1;2 c right to 2;2 last left to 0;3 a right to 2;3 b left to 3;3 c left to 0",
-        "3 last left to 3"};
-    private static final String[] KINDS_801 = {
-        "0 a right to 3;0 b left to 1;0 c right to 3;0 first right to 1;0 last left to 3;1 a left to 3;1 b left to 1",
-        "1 c left to 2;1 last left to 1;2 a left to 2;2 b left to 2;2 c right to 0;3 a left to 1;3 c left to 3",
-        "3 first right to 3"};
-    private static final String[] PAIRS_4000 = {
-        "0 a left to 2;0 c left to 4;0 first right to 1;0 last left to 0;1 a left to 2;1 b left to 3;1 c left to 3",
-        "1 first right to 1;2 a left to 0;2 b right to 2;2 c left to 2;2 first right to 1;2 last left to 4;3 a left to 3",
-        "3 b left to 4;3 c left to 1;3 first right to 2;4 a left to 4;4 b left to 0;4 c left to 3;4 first right to 3",
-        "4 last left to 1"};
-    private static final String[] PAIRS_4000_OTHER = {
-        "0 a left to 1;0 b right to 2;0 c right to 0;0 first right to 3;1 a left to 4;1 b left to 3;1 c left to 0",
-        "1 first right to 2;2 a right to 2;2 c left to 4;2 first right to 1;2 last left to 0;3 a left to 3;3 b left to 4",
-        "3 c left to 3;3 first right to 2;3 last left to 3;4 a left to 2;4 b left to 0;4 c left to 1;4 first right to 0",
-        "4 last left to 0"};
-    private static final String[] PAIRS_4001 = {
-        "0 a right to 3;0 b left to 1;0 c right to 4;0 first right to 4;1 a left to 1;1 b left to 0;1 c left to 3",
-        "1 first right to 2;1 last left to 0;2 a right to 4;2 b right to 1;2 c right to 2;2 first right to 0;2 last left to 1",
-        "3 a left to 3;3 b left to 3;3 c left to 0;3 last left to 4;4 a right to 2;4 b right to 2;4 c right to 0",
-        "4 first right to 0;4 last left to 3"};
-    private static final String[] PAIRS_4001_OTHER = {
-        "0 a left to 0;0 b right to 2;0 c right to 0;0 first right to 1;0 last left to 1;1 a right to 4;1 b right to 1",
-        "1 c left to 0;1 last left to 1;2 a left to 3;2 b left to 3;2 c right to 1;2 first right to 3;3 a left to 4",
-        "3 b left to 4;3 c left to 2;3 last left to 3;4 a left to 2;4 b right to 0;4 c left to 3;4 first right to 0",
-        "4 last left to 3"};
-
     private static int wrong = 0;
     private static int checked = 0;
     private static int promise = 0;
@@ -69,9 +31,9 @@ public final class Promises {
 
     private static void tell(BothWays x, int reader, int states, int takes, String... texts) {
         due("reader", x.reader(reader, states, takes), 1);
-        for (String text : texts) {
-            write(x, text);
-            due("moves of " + text, x.moves(reader) > 0 ? 1 : 0, 1);
+        for (String move : String.join(";", texts).split(";")) {
+            write(x, move);
+            due("moves of " + move, x.moves(reader) > 0 ? 1 : 0, 1);
         }
     }
 
@@ -121,13 +83,13 @@ public final class Promises {
             due("many", x.many(reader, 0), 0);
         }
         due("erase", x.erase(), 0);
-        write(x, ONWARD);
+        write(x, Readers.ONWARD);
         due("moves of a reader as at first", x.moves(1), 4);
         due("none of its states takes", x.run(1, 0), 0);
         due("though it came to the right end", x.run(1, 2), 1);
         // A second object knows nothing of the first one.
         x.letter(1);
-        write(x, ONWARD.substring(0, 8));
+        write(x, Readers.ONWARD.substring(0, 8));
         x.reader(0, 5, 31);
         BothWays y = new BothWays();
         due("count 0 of another", y.count(0), 0);
@@ -156,7 +118,7 @@ public final class Promises {
             due("bits below 0", x.reader(1, states, -1), OUTSIDE);
             due("highest bit", x.reader(1, states, LEAST), OUTSIDE);
         }
-        BothWays y = with(2, 1, EVEN);
+        BothWays y = with(2, 1, Readers.EVEN);
         due("takes none", y.run(0, 0), 1);
         due("refused", y.reader(0, 2, 4), OUTSIDE);
         due("kept moves", y.count(2), 5);
@@ -199,8 +161,8 @@ public final class Promises {
         promise = 4;
         BothWays x = new BothWays();
         due("empty", x.erase(), 0);
-        write(x, ONWARD);
-        due("all", x.erase(), ONWARD.length());
+        write(x, Readers.ONWARD);
+        due("all", x.erase(), Readers.ONWARD.length());
         due("none", x.erase(), 0);
         due("fault", x.fault(0), 0);
         for (int i = 1; i <= 20; i++) {
@@ -311,11 +273,11 @@ public final class Promises {
         due("empty text", x.moves(0), NOT);
         due("reader ahead of text", x.moves(2), UNKNOWN);
         x.reader(0, 2, 1);
-        write(x, EVEN);
+        write(x, Readers.EVEN);
         due("no such reader", x.moves(-1), UNKNOWN);
-        due("text stays", x.count(1), EVEN.length());
+        due("text stays", x.count(1), Readers.EVEN.length());
         due("not for reader 1", x.moves(1), NOT);
-        due("text stays", x.count(1), EVEN.length());
+        due("text stays", x.count(1), Readers.EVEN.length());
         due("nothing of it", x.count(3), 0);
         due("moves", x.moves(0), 5);
         due("text is empty", x.count(1), 0);
@@ -360,7 +322,7 @@ public final class Promises {
 
     private static void drops() {
         promise = 8;
-        BothWays x = with(2, 1, EVEN);
+        BothWays x = with(2, 1, Readers.EVEN);
         due("reader 2", x.drop(2, 0, 0), UNKNOWN);
         due("reader -1", x.drop(-1, 0, 0), UNKNOWN);
         due("state 2", x.drop(0, 2, 0), UNKNOWN);
@@ -435,7 +397,7 @@ public final class Promises {
 
     private static void runs() {
         promise = 11;
-        BothWays x = with(2, 1, EVEN);
+        BothWays x = with(2, 1, Readers.EVEN);
         dueRun(x, 0, "", 1, 1, 1, 0, 0);
         dueRun(x, 0, "ab", 0, 3, 3, 1, 0);
         dueRun(x, 0, "bab", 1, 4, 4, 0, 0);
@@ -453,7 +415,7 @@ public final class Promises {
         BothWays v = with(2, 3, "0 first right to 0;0 a right to 1 say c;1 a left to 0 say b");
         dueRun(v, 0, "aa", 2, 3, 1, 0, 2);
         // As far as can be: 24 letters there, back, and there.
-        BothWays w = with(3, 4, BACKWARDS);
+        BothWays w = with(3, 4, Readers.BACKWARDS);
         dueRun(w, 0, "abcabcabcabcabcabcabcabc", 1, 25 + 25 + 25, 25, 2, 24);
         due("said 0", w.said(0, 0), C);
         due("said 23", w.said(0, 23), A);
@@ -485,7 +447,7 @@ public final class Promises {
 
     private static void sayings() {
         promise = 12;
-        BothWays x = with(3, 4, BACKWARDS);
+        BothWays x = with(3, 4, Readers.BACKWARDS);
         set(x, "abbc");
         int[] want = {C, B, B, A, NONE};
         for (int k = 0; k < want.length; k++) {
@@ -560,7 +522,7 @@ public final class Promises {
 
     private static void likes() {
         promise = 14;
-        BothWays x = with(2, 1, EVEN);
+        BothWays x = with(2, 1, Readers.EVEN);
         due("no letters", x.like(0, -1), NOT);
         due("k ahead of no letters", x.like(0, -2), OUTSIDE);
         due("reader ahead of k", x.like(2, -2), UNKNOWN);
@@ -580,10 +542,10 @@ public final class Promises {
         dueLike(y, "aaa", "aaa");
         dueLike(y, "aaba", "aaba");
         dueLike(y, "aaabb", "b");
-        BothWays z = with(4, 13, KINDS_800);
+        BothWays z = with(4, 13, Readers.KINDS_800);
         set(z, "a");
         due("800 kinds", z.like(0, -1), 1);
-        BothWays w = with(4, 8, KINDS_801);
+        BothWays w = with(4, 8, Readers.KINDS_801);
         due("not ahead of spent", w.like(0, -1), NOT);
         set(w, "a");
         due("801 kinds", w.like(0, -1), SPENT);
@@ -605,7 +567,7 @@ public final class Promises {
 
     private static void kindsOfTables() {
         promise = 15;
-        BothWays x = with(2, 1, EVEN);
+        BothWays x = with(2, 1, Readers.EVEN);
         // From the left even or odd, or that it stops at c; from the right the last letter, and c only behind c.
         due("a, b, bb, ba, c, ca, cb", x.kinds(0), 7);
         due("no moves", x.kinds(1), 1);
@@ -616,8 +578,8 @@ public final class Promises {
         due("a, b, ba, bb, bba, c", x.kinds(0), 6);
         x.reader(0, 2, 1);
         due("made anew", x.kinds(0), 1);
-        due("800 kinds", with(4, 13, KINDS_800).kinds(0), 800);
-        BothWays spent = with(4, 8, KINDS_801);
+        due("800 kinds", with(4, 13, Readers.KINDS_800).kinds(0), 800);
+        BothWays spent = with(4, 8, Readers.KINDS_801);
         due("801 kinds", spent.kinds(0), SPENT);
         due("the other one", spent.kinds(1), 1);
         spent.reader(0, 1, 0);
@@ -636,14 +598,14 @@ public final class Promises {
 
     private static void manyOfLength() {
         promise = 16;
-        BothWays x = with(2, 1, EVEN);
+        BothWays x = with(2, 1, Readers.EVEN);
         due("length 10000", x.many(0, 10000), powerOfTwo(9999));
         due("length 0", x.many(0, 0), 1);
         for (int n : new int[] {1, 2, 3, 12, 30, 31, 32, 5000, 9999}) {
             due("length " + n, x.many(0, n), powerOfTwo(n - 1));
         }
         due("no moves", x.many(1, 4), 0);
-        tell(x, 1, 1, 1, ONWARD);
+        tell(x, 1, 1, 1, Readers.ONWARD);
         due("all rows", x.many(1, 18), 387420489);
         due("all rows modulo", x.many(1, 19), 162261460);
         for (int n : new int[] {10001, -1, LEAST, GREATEST}) {
@@ -655,7 +617,7 @@ public final class Promises {
 
     private static void ofLength() {
         promise = 17;
-        BothWays x = with(2, 1, EVEN);
+        BothWays x = with(2, 1, Readers.EVEN);
         String[] three = {"aaa", "abb", "bab", "bba"};
         for (int i = 0; i < 5; i++) {
             for (int k = 0; k < 4; k++) {
@@ -664,7 +626,7 @@ public final class Promises {
             }
         }
         due("of 0", x.of(0, 0, 0, 0), NONE);
-        tell(x, 1, 1, 1, ONWARD);
+        tell(x, 1, 1, 1, Readers.ONWARD);
         for (int k = 0; k < 12; k++) {
             due("last of 12", x.of(1, 12, 531440, k), C);
             due("first of 12", x.of(1, 12, 0, k), A);
@@ -685,7 +647,7 @@ public final class Promises {
 
     private static void ranks() {
         promise = 18;
-        BothWays x = with(2, 1, EVEN);
+        BothWays x = with(2, 1, Readers.EVEN);
         due("empty", x.rank(0), 0);
         due("not taken", x.rank(1), NONE);
         String[] three = {"aaa", "abb", "bab", "bba"};
@@ -697,7 +659,7 @@ public final class Promises {
             set(x, not);
             due("rank of " + not, x.rank(0), NONE);
         }
-        tell(x, 1, 1, 1, ONWARD);
+        tell(x, 1, 1, 1, Readers.ONWARD);
         set(x, "cccccccccccc");
         due("last of 12", x.rank(1), 531440);
         x.letter(A);
@@ -709,14 +671,14 @@ public final class Promises {
 
     private static void fewestStates() {
         promise = 19;
-        BothWays x = with(2, 1, EVEN);
+        BothWays x = with(2, 1, Readers.EVEN);
         due("even, odd, and no more", x.fewest(0), 3);
         due("no moves", x.fewest(1), 1);
-        tell(x, 1, 1, 1, ONWARD);
+        tell(x, 1, 1, 1, Readers.ONWARD);
         due("all rows", x.fewest(1), 1);
-        tell(x, 1, 1, 0, ONWARD);
+        tell(x, 1, 1, 0, Readers.ONWARD);
         due("none of all", x.fewest(1), 1);
-        tell(x, 1, 3, 4, BACKWARDS);
+        tell(x, 1, 3, 4, Readers.BACKWARDS);
         due("all rows, there, back and there", x.fewest(1), 1);
         // From the right end back over a b; it takes, if a letter is before that, and then on in 2: all that end in ab or bb.
         tell(x, 1, 3, 4, "0 first right to 0;0 a right to 0;0 b right to 0;0 last left to 1;1 b left to 2", "2 a right to 2;2 b right to 2");
@@ -730,7 +692,7 @@ public final class Promises {
 
     private static void alikes() {
         promise = 20;
-        BothWays x = with(2, 1, EVEN);
+        BothWays x = with(2, 1, Readers.EVEN);
         due("empty row", x.alike(0, 0, 0), 1);
         set(x, "abbbcab");
         // States behind 0 .. 7 letters: even, even, odd, even, odd, none, none, none.
@@ -753,7 +715,7 @@ public final class Promises {
 
     private static void shortestTaken() {
         promise = 21;
-        BothWays x = with(2, 1, EVEN);
+        BothWays x = with(2, 1, Readers.EVEN);
         dueTold("empty", new int[] {x.shortest(0, -1), x.shortest(0, 0)}, "");
         dueTold("no moves", new int[] {x.shortest(1, -1), x.shortest(1, 0)}, null);
         // State 3 behind b, any, c: of these the first one.
@@ -772,7 +734,7 @@ public final class Promises {
 
     private static void rounds() {
         promise = 22;
-        BothWays x = with(2, 1, EVEN);
+        BothWays x = with(2, 1, Readers.EVEN);
         dueTold("none", new int[] {x.round(0, -1), x.round(0, 0)}, null);
         // From b it goes back to a in 1, and there to b in 0 again.
         tell(x, 1, 2, 0, "0 first right to 0;0 a right to 0;0 b left to 1;1 a right to 0");
@@ -792,9 +754,9 @@ public final class Promises {
         promise = 23;
         BothWays x = new BothWays();
         dueTold("both without moves", new int[] {x.parted(-1), x.parted(0)}, null);
-        tell(x, 0, 2, 1, EVEN);
+        tell(x, 0, 2, 1, Readers.EVEN);
         dueTold("empty", new int[] {x.parted(-1), x.parted(0)}, "");
-        tell(x, 1, 2, 1, EVEN);
+        tell(x, 1, 2, 1, Readers.EVEN);
         dueTold("the same", new int[] {x.parted(-1), x.parted(0)}, null);
         x.drop(1, 1, A);
         dueTold("bab", new int[] {x.parted(-1), x.parted(0), x.parted(1), x.parted(2), x.parted(3)}, "bab");
@@ -803,11 +765,11 @@ public final class Promises {
         due("k -2", x.parted(-2), OUTSIDE);
         due("k least", x.parted(LEAST), OUTSIDE);
         due("k greatest", x.parted(GREATEST), NONE);
-        BothWays y = with(5, 23, PAIRS_4000);
-        tell(y, 1, 5, 8, PAIRS_4000_OTHER);
+        BothWays y = with(5, 23, Readers.PAIRS_4000);
+        tell(y, 1, 5, 8, Readers.PAIRS_4000_OTHER);
         due("4000 pairs", y.parted(-1), 0);
-        BothWays z = with(5, 23, PAIRS_4001);
-        tell(z, 1, 5, 3, PAIRS_4001_OTHER);
+        BothWays z = with(5, 23, Readers.PAIRS_4001);
+        tell(z, 1, 5, 3, Readers.PAIRS_4001_OTHER);
         due("4001 pairs, though a row parts", z.parted(-1), SPENT);
         due("4001 pairs, a letter", z.parted(0), SPENT);
         due("outside ahead of spent", z.parted(-2), OUTSIDE);
@@ -819,7 +781,7 @@ public final class Promises {
         promise = 24;
         BothWays x = new BothWays();
         dueTold("both without moves", new int[] {x.otherwise(7, -1), x.otherwise(7, 0)}, null);
-        tell(x, 0, 3, 4, BACKWARDS);
+        tell(x, 0, 3, 4, Readers.BACKWARDS);
         tell(x, 1, 1, 1, "0 first right to 0;0 a right to 0 say a;0 b right to 0 say b;0 c right to 0 say c");
         // A row is said forwards and backwards the same, if it is one letter or none, or aa.
         dueTold("ab", new int[] {x.otherwise(2, -1), x.otherwise(2, 0), x.otherwise(2, 1), x.otherwise(2, 2)}, "ab");
@@ -862,12 +824,12 @@ public final class Promises {
 
     private static void mostOfLength() {
         promise = 25;
-        BothWays x = with(2, 1, EVEN);
+        BothWays x = with(2, 1, Readers.EVEN);
         for (int n = 0; n <= 7; n++) {
             due("to the right end", x.most(0, n), n + 1);
             due("no moves", x.most(1, n), 0);
         }
-        tell(x, 1, 3, 4, BACKWARDS);
+        tell(x, 1, 3, 4, Readers.BACKWARDS);
         due("there, back and there", x.most(1, 7), 24);
         due("and on no letters", x.most(1, 0), 3);
         // Around on rows of a alone: only those with b or c are counted, where it stops.
@@ -875,7 +837,7 @@ public final class Promises {
         due("all of length 0 go around", x.most(1, 0), NONE);
         due("stops at the last of seven", x.most(1, 7), 7);
         due("stops at the one", x.most(1, 1), 1);
-        tell(x, 1, 1, 0, ONWARD + ";0 last left to 0");
+        tell(x, 1, 1, 0, Readers.ONWARD + ";0 last left to 0");
         due("all of length 7 go around", x.most(1, 7), NONE);
         for (int n : new int[] {8, -1, LEAST, GREATEST}) {
             due("n " + n, x.most(0, n), OUTSIDE);
@@ -886,8 +848,8 @@ public final class Promises {
 
     private static void counts() {
         promise = 26;
-        BothWays x = with(2, 1, EVEN);
-        tell(x, 1, 1, 1, ONWARD);
+        BothWays x = with(2, 1, Readers.EVEN);
+        tell(x, 1, 1, 1, Readers.ONWARD);
         set(x, "abc");
         write(x, "0 a");
         int[] want = {3, 3, 5, 4};

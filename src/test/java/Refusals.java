@@ -66,8 +66,8 @@ public final class Refusals {
             case AT_FIRST:
                 break;
             case ORDINARY:
-                told(s, c, 0, 2, 1, Subject.EVEN);
-                told(s, c, 1, 3, 4, Subject.BACKWARDS);
+                told(s, c, 0, 2, 1, Readers.EVEN);
+                told(s, c, 1, 3, 4, Readers.BACKWARDS);
                 filled(s, c, "0 c left to 0 say b", "abb");
                 goodFor(c, true, true);
                 break;
@@ -78,25 +78,25 @@ public final class Refusals {
                 goodFor(c, true, true);
                 break;
             case FAULT_FOR_ONE:
-                told(s, c, 0, 5, 16, Subject.EVEN + ";4 last left to 4");
-                told(s, c, 1, 4, 8, Subject.ONWARD);
+                told(s, c, 0, 5, 16, Readers.EVEN + ";4 last left to 4");
+                told(s, c, 1, 4, 8, Readers.ONWARD);
                 filled(s, c, Subject.times(" ", 141) + "0 c left to 4", Subject.times("abc", 4));
                 goodFor(c, true, false);
                 break;
             case KINDS_SPENT:
-                told(s, c, 0, 4, 8, Subject.KINDS_801);
-                told(s, c, 1, 2, 1, Subject.EVEN);
+                told(s, c, 0, 4, 8, Readers.KINDS_801);
+                told(s, c, 1, 2, 1, Readers.EVEN);
                 filled(s, c, Subject.times(" ", 155), Subject.times("abc", 4) + "a");
                 c.spent[0] = true;
                 break;
             case KINDS_SPENT_NO_ROW:
-                told(s, c, 1, 4, 8, Subject.KINDS_801);
+                told(s, c, 1, 4, 8, Readers.KINDS_801);
                 filled(s, c, Subject.times(" ", 152), "");
                 c.spent[1] = true;
                 break;
             default:
-                told(s, c, 0, 5, 23, Subject.PAIRS_4001);
-                told(s, c, 1, 5, 3, Subject.PAIRS_4001_OTHER);
+                told(s, c, 0, 5, 23, Readers.PAIRS_4001);
+                told(s, c, 1, 5, 3, Readers.PAIRS_4001_OTHER);
                 filled(s, c, Subject.times(" ", 153), "abca");
                 c.spent[0] = true;
                 c.spent[1] = true;

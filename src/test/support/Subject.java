@@ -8,42 +8,6 @@ final class Subject {
     static final int A = 0, B = 1, C = 2, LEFT_END = 3, RIGHT_END = 4;
     static final int CALLS_MOST = 512;
 
-    /** Takes rows of a and b with an even number of b (2 states, the first one takes). */
-    static final String EVEN = "0 first right to 0;0 a right to 0;0 b right to 1;1 a right to 1;1 b right to 0";
-    /** Goes to the right over all letters (1 state). */
-    static final String ONWARD = "0 first right to 0;0 a right to 0;0 b right to 0;0 c right to 0";
-    /** Goes to the right and says each letter (1 state). */
-    static final String ECHO = "0 first right to 0;0 a right to 0 say a;0 b right to 0 say b;0 c right to 0 say c";
-    /** To the right end, back, saying the row backwards, and to the right end again (3 states, the last one takes). */
-    static final String BACKWARDS = ONWARD + ";0 last left to 1;1 a left to 1 say a;1 b left to 1 say b;1 c left to 1 say c;"
-        + "1 first right to 2;2 a right to 2;2 b right to 2;2 c right to 2";
-    /** 801 kinds of tables (4 states). */
-    static final String KINDS_801 = "0 a right to 3;0 b left to 1;0 c right to 3;0 first right to 1;0 last left to 3;"
-        + "1 a left to 3;1 b left to 1;1 c left to 2;1 last left to 1;2 a left to 2;2 b left to 2;2 c right to 0;"
-        + "3 a left to 1;3 c left to 3;3 first right to 3";
-    /** 800 kinds of tables (4 states). */
-    static final String KINDS_800 = "0 a left to 3;0 b left to 0;0 c left to 3;0 first right to 3;1 a right to 0;"
-        + "1 b right to 0;1 last left to 1;2 a left to 3;2 b right to 1;2 c right to 2;2 last left to 0;3 a right to 2;"
-        + "3 b left to 3;3 c left to 0;3 last left to 3";
-    /** With PAIRS_4000_OTHER 4000 pairs of what beginnings do (5 states each). */
-    static final String PAIRS_4000 = "0 a left to 2;0 c left to 4;0 first right to 1;0 last left to 0;1 a left to 2;"
-        + "1 b left to 3;1 c left to 3;1 first right to 1;2 a left to 0;2 b right to 2;2 c left to 2;2 first right to 1;"
-        + "2 last left to 4;3 a left to 3;3 b left to 4;3 c left to 1;3 first right to 2;4 a left to 4;4 b left to 0;"
-        + "4 c left to 3;4 first right to 3;4 last left to 1";
-    static final String PAIRS_4000_OTHER = "0 a left to 1;0 b right to 2;0 c right to 0;0 first right to 3;1 a left to 4;"
-        + "1 b left to 3;1 c left to 0;1 first right to 2;2 a right to 2;2 c left to 4;2 first right to 1;2 last left to 0;"
-        + "3 a left to 3;3 b left to 4;3 c left to 3;3 first right to 2;3 last left to 3;4 a left to 2;4 b left to 0;"
-        + "4 c left to 1;4 first right to 0;4 last left to 0";
-    /** With PAIRS_4001_OTHER 4001 pairs (5 states each). */
-    static final String PAIRS_4001 = "0 a right to 3;0 b left to 1;0 c right to 4;0 first right to 4;1 a left to 1;"
-        + "1 b left to 0;1 c left to 3;1 first right to 2;1 last left to 0;2 a right to 4;2 b right to 1;2 c right to 2;"
-        + "2 first right to 0;2 last left to 1;3 a left to 3;3 b left to 3;3 c left to 0;3 last left to 4;4 a right to 2;"
-        + "4 b right to 2;4 c right to 0;4 first right to 0;4 last left to 3";
-    static final String PAIRS_4001_OTHER = "0 a left to 0;0 b right to 2;0 c right to 0;0 first right to 1;0 last left to 1;"
-        + "1 a right to 4;1 b right to 1;1 c left to 0;1 last left to 1;2 a left to 3;2 b left to 3;2 c right to 1;"
-        + "2 first right to 3;3 a left to 4;3 b left to 4;3 c left to 2;3 last left to 3;4 a left to 2;4 b right to 0;"
-        + "4 c left to 3;4 first right to 0;4 last left to 3";
-
     private static final int TEXT_MOST = 160, STATES_MOST = 5, SIGNS = 5, ROW_MOST = 24;
     private static final String[] SIGN_WORDS = {"a", "b", "c", "first", "last"};
 
@@ -302,7 +266,7 @@ final class Subject {
 
     /** Reader 1 keeps what takes, and says the letters on its first way to the right. */
     private void rowInto(StringBuilder all) {
-        text(ECHO);
+        text(Readers.ECHO);
         ask("moves", 1);
         for (int k = 0; k < ROW_MOST; k++) {
             tellInto(all, "said", 1, k);
