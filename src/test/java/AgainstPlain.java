@@ -583,6 +583,23 @@ public final class AgainstPlain {
         checkAll(x, models, random, "far");
     }
 
+    /** One object for several readers, one behind the other: nothing that was searched out for one is told of the next. */
+    private static void checkOneBehindTheOther(Random random, int number) {
+        BothWays x = new BothWays();
+        for (int i = 0; i < 7; i++) {
+            Model m = randomModel(random, 1);
+            String name = "reader " + i + " of object " + number;
+            tell(x, 0, m);
+            Forward f = forward(m);
+            due(name + " fewest", x.fewest(0), f.classes);
+            due(name + " many", x.many(0, 3 * i), manyByStates(f, 3 * i));
+            int[] taken = firstEnding(f, 1);
+            due(name + " shortest", x.shortest(0, -1), taken == null ? NONE : taken.length);
+            List<int[]> tables = unlike(r -> table(m, r), false, 800);
+            due(name + " kinds", x.kinds(0), tables == null ? SPENT : tables.size());
+        }
+    }
+
     // ---- texts
 
     private static final String[] WORDS = {"0", "1", "2", "4", "5", "01", "10", "a", "b", "c", "d", "ab", "first", "last",
@@ -688,6 +705,9 @@ public final class AgainstPlain {
             int changed = random.nextInt(2);
             change(x, changed, models[changed], random);
             checkAll(x, models, random, "object " + i + " changed");
+        }
+        for (int i = 0; i < objects; i++) {
+            checkOneBehindTheOther(random, i);
         }
         checkMuch(random);
         checkFar(random);
